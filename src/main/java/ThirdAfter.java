@@ -6,6 +6,7 @@ public final class ThirdAfter {
     public static final int BAD = -1, NOT = -2, FULL = -3, STATE = -5, VOID = -2000000000;
 
     private static final int MISSING = -11, OTHER_KIND = -12, NO_PLACE = -13, SIZE_BELOW_NONE = -14;
+    private static final long NO_ELEMENT = -9223372036854775808L;
     private static final int MOST_BUYERS = 8, NOBODY = 8, NOT_SEEN = 9;
     private static final int MOST_PURSE = 999, MOST_DAY = 99, MOST_BOUGHT = 99;
     private static final int MOST_THIRD = 5, MOST_COMINGS = 20, MOST_DAYS = 20, MOST_ORDERED = 5, MOST_TURNS = 5;
@@ -463,7 +464,7 @@ public final class ThirdAfter {
     }
 
     public long element(int shelf, int i) {
-        return refusalOfCell(shelf, i) < 0 ? Long.MIN_VALUE : shelves[shelf].cells[i];
+        return refusalOfCell(shelf, i) < 0 ? NO_ELEMENT : shelves[shelf].cells[i];
     }
 
     public int shift(int shelf, int i, int other, int j, int n) {
