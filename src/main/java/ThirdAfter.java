@@ -424,11 +424,7 @@ public final class ThirdAfter {
     }
 
     public int act(int body, int act, int x) {
-        latches.ran = 0;
-        if (!latches.isThere(body) || !within(act, 0, Latches.ACTS - 1)) {
-            return 0;
-        }
-        return latches.run(body, latches.kinds[body], act, x, 0);
+        return latches.perform(body, act, x);
     }
 
     public int trace(int i) {
@@ -847,7 +843,10 @@ public final class ThirdAfter {
         }
 
         private int purseBehind(Market now, int one) {
-            runFrom(now);
+            market.become(now);
+            for (int k = 0; k < length && k < MOST_COMINGS; k++) {
+                market.comesIn(comings[k]);
+            }
             return market.number(one, PURSE);
         }
 
@@ -1000,17 +999,13 @@ public final class ThirdAfter {
             return NOT;
         }
 
-        private boolean runFits(Shelf seen) {
-            run();
-            return firstUnlike(seen) == NOT;
-        }
-
         int thirdsThatFit(Market now, Shelf seen) {
             int bits = 0;
             for (int third = 1; third <= MOST_THIRD; third++) {
                 market.become(now);
                 market.third = third;
-                if (runFits(seen)) {
+                run();
+                if (firstUnlike(seen) == NOT) {
                     bits |= 1 << third;
                 }
             }
@@ -1022,7 +1017,8 @@ public final class ThirdAfter {
             for (int who = 0; who < now.count; who++) {
                 comings[place] = who;
                 market.become(now);
-                if (runFits(seen)) {
+                run();
+                if (firstUnlike(seen) == NOT) {
                     bits |= 1 << who;
                 }
             }
@@ -1034,7 +1030,8 @@ public final class ThirdAfter {
             for (int wants = LEAST_NUMBER[WANTS]; wants <= MOST_NUMBER[WANTS]; wants++) {
                 market.become(now);
                 market.setNumber(one, WANTS, wants);
-                if (runFits(seen)) {
+                run();
+                if (firstUnlike(seen) == NOT) {
                     bits |= 1 << wants;
                 }
             }
@@ -1047,7 +1044,7 @@ public final class ThirdAfter {
                 market.become(now);
                 // the first turn is the highest bit, so that neighbours differ by the last turn alone
                 for (int turn = 0; turn < n; turn++) {
-                    if ((choices >> n - 1 - turn & 1) == 1) {
+                    if ((choices >> (n - 1 - turn) & 1) == 1) {
                         market.comesIn(turn % 2 == 0 ? one : other);
                     }
                 }
@@ -1395,7 +1392,8 @@ public final class ThirdAfter {
 
     /** LATCHES by number, their KINDS' bodies, and THE TRACE. */
     private static final class Latches {
-        static final int MOST = 50, KINDS = 8, ACTS = 4, MOST_TRACE = 24;
+        static final int MOST = 50, KINDS = 8, MOST_TRACE = 24;
+        private static final int ACTS = 4;
         private static final int COMES = 0, OWES = 1, PAYS = 2;
         /** No act goes as deep as this. */
         private static final int MOST_DEPTH = 40;
@@ -1453,9 +1451,18 @@ public final class ThirdAfter {
             return 0;
         }
 
+        /** An ACT of a LATCH; 0, and no TRACE, where there is no such. */
+        int perform(int latch, int act, int x) {
+            ran = 0;
+            if (!isThere(latch) || act < 0 || act >= ACTS) {
+                return 0;
+            }
+            return run(latch, kinds[latch], act, x, 0);
+        }
+
         /** An ACT by the body that a KIND has or gets from above. */
-        int run(int latch, int from, int act, int x, int depth) {
-            if (depth >= MOST_DEPTH || !isThere(latch) || act < 0 || act >= ACTS) {
+        private int run(int latch, int from, int act, int x, int depth) {
+            if (depth >= MOST_DEPTH) {
                 return 0;
             }
             int kind = kindWithBody(from, act);

@@ -60,11 +60,13 @@ public final class OracleTest {
         for (int i = 0; i < people && !wrong; i++) {
             buyer();
         }
-        // some runs feed texts, some go on with many bodies, all do the rest
-        boolean texts = random.nextInt(2) == 0;
+        // some runs feed texts, some are deeds for the most part, all do the rest
+        boolean texts = random.nextInt(2) == 0, deeds = random.nextInt(8) == 0;
         while (calls.size() < CALLS && !wrong) {
             int r = random.nextInt(100);
-            if (r < 4 && texts) {
+            if (deeds && r < 90) {
+                deed();
+            } else if (r < 4 && texts) {
                 tell(text());
             } else if (r < 20) {
                 deed();

@@ -262,6 +262,11 @@ public final class PromiseTest {
         }
         due("120 bytes", law(market(1, 1), longest + "0"), 1);
         due("120 bytes that end too early", law(market(1, 1), longest + "+"), -220);
+        // each byte counts, and the line's end: 59 ones less one
+        ThirdAfter whole = market(1, 1);
+        comings(whole, 0, 0);
+        due("120 bytes, each of which is worked out", law(whole, "-" + longest), 1);
+        due("120 bytes' value", whole.coming(0, 0, 2), 58);
     }
 
     /** For how much buyer 0 (WANTS 3, HASTE 5, PURSE 90) buys when he comes the third time, 4th of DAY 7. */
@@ -1021,6 +1026,27 @@ public final class PromiseTest {
             due("redo()", y.redo(), i);
         }
         due("the latest", y.of(0, 0), 41);
+        // of 45 unlike changes the oldest 5 are told no more
+        ThirdAfter many = market(0, 0, 0, 0, 0, 0);
+        int[] whose = new int[45], which = new int[45], ahead = new int[45], behind = new int[45];
+        for (int i = 0; i < 45; i++) {
+            whose[i] = i % 3;
+            which[i] = i % 7 % 3;
+            ahead[i] = many.of(whose[i], which[i]);
+            behind[i] = (ahead[i] + 1 + i % 5) % 10;
+            due("mend()", many.mend(whose[i], which[i], behind[i]), ahead[i]);
+        }
+        promise = 28;
+        for (int i = 44; i >= 5; i--) {
+            due("undo()", many.undo(), i - 5);
+            due("as it was ahead of change " + i, many.of(whose[i], which[i]), ahead[i]);
+        }
+        due("no more", many.undo(), STATE);
+        promise = 29;
+        for (int i = 5; i < 45; i++) {
+            due("redo()", many.redo(), 44 - i);
+            due("as it was behind change " + i, many.of(whose[i], which[i]), behind[i]);
+        }
         // PURSES by deeds are no changes: undone is what was told
         ThirdAfter z = market(1, 1, 1, 1);
         z.mend(0, 0, 60);
