@@ -338,8 +338,7 @@ public final class ThirdAfter {
         if (nmd < 0 || !within(markets, 1, 30) || !within(comings, 1, 60) || !within(dusk, 0, 12)) {
             return BAD;
         }
-        // where nobody is, no BUYER can be drawn
-        if (now.count == 0 || one != -1 && !isBuyer(one)) {
+        if (one != -1 && !isBuyer(one)) {
             return BAD;
         }
         int sum = 0;
@@ -1063,6 +1062,7 @@ public final class ThirdAfter {
         int draw(Market now, int seed, int times, int dusk) {
             market.become(now);
             int z = seed;
+            // where nobody is, nobody comes in, and nothing lacks
             for (int i = 0; i < times && now.count > 0; i++) {
                 z = z * 1103515245 + 12345;
                 if ((z >>> 16) % 12 < dusk) {

@@ -699,7 +699,7 @@ final class Oracle {
     }
 
     int drawn(int seed, int nmd, int one) {
-        if (nmd < 0 || one < -1 || one >= s.people.size() || s.people.isEmpty()) {
+        if (nmd < 0 || one < -1 || one >= s.people.size()) {
             return BAD;
         }
         int n = nmd / 10000, m = nmd % 10000 / 100, dusk = nmd % 100;
@@ -714,8 +714,10 @@ final class Oracle {
                 if (Integer.remainderUnsigned(z >>> 16, 12) < dusk) {
                     t.evening();
                 }
-                int lacking = t.come((z >>> 8) % t.people.size()).lacking;
-                sum += one == -1 ? lacking : 0;
+                if (!t.people.isEmpty()) {
+                    int lacking = t.come((z >>> 8) % t.people.size()).lacking;
+                    sum += one == -1 ? lacking : 0;
+                }
             }
             sum += one == -1 ? 0 : t.people.get(one)[0];
         }

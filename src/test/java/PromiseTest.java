@@ -120,6 +120,7 @@ public final class PromiseTest {
         rows();
         shift();
         count();
+        thoughtWithNobody();
         thoughtChangesNothing();
         System.out.println(checks + " checks, " + wrong + " of them wrong");
         System.exit(wrong == 0 ? 0 : 1);
@@ -782,7 +783,13 @@ public final class PromiseTest {
         all("one", n -> x.drawn(1, 10100, n), BAD, -2, 3, 8, LOW, HIGH);
         all("seed", s -> x.drawn(s, 10100, 0) > 0 ? 1 : 0, 1, LOW, HIGH, 0, -1);
         due("all at most", x.drawn(1, 306012, -1) >= 0 ? 1 : 0, 1);
-        due("with nobody", new ThirdAfter().drawn(1, 10100, -1), BAD);
+        ThirdAfter nobody = new ThirdAfter();
+        all("LACKING with nobody", v -> nobody.drawn(0, v, -1), 0, 10100, 11112, 306000, 306012);
+        all("LACKING with nobody, by a seed", s -> nobody.drawn(s, 11112, -1), 0, LOW, HIGH, -1, 7);
+        all("PURSE with nobody", n -> nobody.drawn(0, 11112, n), BAD, 0, 7, -2, LOW, HIGH);
+        all("nmd with nobody", v -> nobody.drawn(0, v, -1), BAD, 0, 100, 310100, 10000, 16100, 10113, -10101, LOW);
+        due("an evening of a draw is in thought", nobody.of(0, 6), 0);
+        due("nobody came", nobody.count(0), 0);
     }
 
     private static void comes() {
@@ -1265,6 +1272,28 @@ public final class PromiseTest {
             due("count(" + what + ")", x.count(what), due[what]);
         }
         all("count", x::count, BAD, -1, 6, LOW, HIGH);
+    }
+
+    /** What names no BUYER is answered where nobody is, too. */
+    private static void thoughtWithNobody() {
+        ThirdAfter x = new ThirdAfter();
+        x.row(0, 0, 5);
+        x.row(1, 0, 0);
+        promise = 10;
+        due("coming(0, 0, 0)", x.coming(0, 0, 0), NOT);
+        promise = 11;
+        due("LACKING", x.later(0, 20, -1), 0);
+        due("PURSE", x.later(0, 20, 0), BAD);
+        promise = 18;
+        due("none come, none seen", x.judge(1), NOT);
+        due("none come, five seen", x.judge(0), 0);
+        promise = 19;
+        due("THIRDS of none seen", x.fits(1, 0, 0), 62);
+        due("THIRDS of five seen", x.fits(0, 0, 0), 0);
+        due("WHOSE", x.fits(1, 0, 1), BAD);
+        due("WANTED", x.fits(1, 0, 2), BAD);
+        promise = 21;
+        due("LACKING by draws", x.drawn(0, 11112, -1), 0);
     }
 
     /** What is only thought of leaves all as it is. */
